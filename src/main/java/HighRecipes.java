@@ -15,19 +15,19 @@ public final class HighRecipes {
     private final Tape tape;
     private final Parser parser;
     private final Kitchen kitchen;
+    private final Cooking cooking;
     // What would be is tried out here, so that the kitchen itself stays as it is.
     private final Kitchen trial;
-    private final Cooking cooking;
-    private Book book;
+    private final Cooking trying;
     private int errorPosition;
 
     public HighRecipes() {
         tape = new Tape();
         parser = new Parser();
         kitchen = new Kitchen();
+        cooking = new Cooking(kitchen);
         trial = new Kitchen();
-        cooking = new Cooking();
-        book = new Book();
+        trying = new Cooking(trial);
         errorPosition = -1;
     }
 
@@ -56,8 +56,7 @@ public final class HighRecipes {
         errorPosition = parser.errorPosition();
         tape.length = 0;
         if (error == 0) {
-            book = parser.book;
-            kitchen.begin(book);
+            kitchen.begin(parser.book);
         }
         return error;
     }
@@ -67,15 +66,15 @@ public final class HighRecipes {
     }
 
     public int pans() {
-        return book.panCount;
+        return kitchen.book.panCount;
     }
 
     public int recipes() {
-        return book.recipeCount;
+        return kitchen.book.recipeCount;
     }
 
     public int acts() {
-        return book.actCount;
+        return kitchen.book.actCount;
     }
 
     // ---- the kitchen
@@ -218,47 +217,47 @@ public final class HighRecipes {
     }
 
     public int cook(int recipe) throws IndexOutOfBoundsException {
-        requireIndex(recipe, book.recipeCount);
-        return cooking.run(book, kitchen, recipe);
+        requireRecipe(recipe);
+        return cooking.run(recipe);
     }
 
     // ---- what would be
 
     public int minutesOfRecipe(int recipe) throws IndexOutOfBoundsException {
-        requireIndex(recipe, book.recipeCount);
+        requireRecipe(recipe);
         trial.become(kitchen);
-        return cooking.run(book, trial, recipe);
+        return trying.run(recipe);
     }
 
     public int warningsOfRecipe(int recipe) throws IndexOutOfBoundsException {
-        requireIndex(recipe, book.recipeCount);
+        requireRecipe(recipe);
         trial.become(kitchen);
-        cooking.run(book, trial, recipe);
+        trying.run(recipe);
         return trial.warnings.total;
     }
 
     public int firstWarning(int recipe) throws IndexOutOfBoundsException {
-        requireIndex(recipe, book.recipeCount);
+        requireRecipe(recipe);
         trial.become(kitchen);
-        cooking.run(book, trial, recipe);
-        return cooking.firstWarningAct;
+        trying.run(recipe);
+        return trying.firstWarningAct;
     }
 
     public int doneBehind(int recipe, int pan) throws IndexOutOfBoundsException {
-        requireIndex(recipe, book.recipeCount);
-        requireIndex(pan, book.panCount);
+        requireRecipe(recipe);
+        requireIndex(pan, kitchen.book.panCount);
         trial.become(kitchen);
-        cooking.run(book, trial, recipe);
+        trying.run(recipe);
         Pan behind = trial.panAt(pan);
         return behind == null ? 0 : behind.done;
     }
 
     public int highestSafe(int recipe) throws IndexOutOfBoundsException {
-        requireIndex(recipe, book.recipeCount);
+        requireRecipe(recipe);
         for (int altitude = HIGHEST; altitude >= 0; altitude--) {
             trial.become(kitchen);
             trial.moveTo(altitude);
-            cooking.run(book, trial, recipe);
+            trying.run(recipe);
             if (trial.warnings.total == 0) {
                 return altitude;
             }
@@ -267,11 +266,11 @@ public final class HighRecipes {
     }
 
     public int mostServings(int recipe) throws IndexOutOfBoundsException {
-        requireIndex(recipe, book.recipeCount);
+        requireRecipe(recipe);
         for (int servings = MOST_SERVINGS; servings >= 1; servings--) {
             trial.become(kitchen);
             trial.servings = servings;
-            cooking.run(book, trial, recipe);
+            trying.run(recipe);
             if (trial.warningsOfKind(Cooking.OVERFLOWS) == 0) {
                 return servings;
             }
@@ -280,7 +279,7 @@ public final class HighRecipes {
     }
 
     public double meanHeat() {
-        int count = kitchen.panCount;
+        int count = kitchen.book.panCount;
         if (count == 0) {
             return 0;
         }
@@ -294,9 +293,9 @@ public final class HighRecipes {
 
     public long digest() {
         long sum = 1913;
-        sum = mixed(sum, book.panCount);
-        sum = mixed(sum, book.recipeCount);
-        sum = mixed(sum, book.actCount);
+        sum = mixed(sum, kitchen.book.panCount);
+        sum = mixed(sum, kitchen.book.recipeCount);
+        sum = mixed(sum, kitchen.book.actCount);
         sum = mixed(sum, kitchen.altitude);
         sum = mixed(sum, kitchen.servings);
         sum = mixed(sum, kitchen.spoon);
@@ -306,7 +305,7 @@ public final class HighRecipes {
         for (int kind = 1; kind <= WARNING_KINDS; kind++) {
             sum = mixed(sum, kitchen.warningsOfKind(kind));
         }
-        for (int i = 0; i < kitchen.panCount; i++) {
+        for (int i = 0; i < kitchen.book.panCount; i++) {
             sum = mixedWithPan(sum, kitchen.panAt(i));
         }
         return mixedWithHistory(mixedWithHistory(sum, kitchen.warnings), kitchen.notes);
@@ -346,6 +345,10 @@ public final class HighRecipes {
         if (index < 0 || index >= count) {
             throw new IndexOutOfBoundsException("there is nothing of this number");
         }
+    }
+
+    private void requireRecipe(int recipe) throws IndexOutOfBoundsException {
+        requireIndex(recipe, kitchen.book.recipeCount);
     }
 
     private Pan requirePan(int pan) throws IndexOutOfBoundsException {
@@ -672,7 +675,7 @@ public final class HighRecipes {
         private static final int MOST_HELD = 200;
 
         private final Tokens tokens = new Tokens();
-        private Book book;
+        private Book book = new Book();
         private int error;
         private int errorToken;
 
@@ -946,7 +949,7 @@ public final class HighRecipes {
         private final History warnings = new History();
         private final History notes = new History();
         private final int[] ofKind = new int[WARNING_KINDS + 1];
-        private int panCount;
+        private Book book = new Book();
         private int altitude;
         private int servings = USUAL_SERVINGS;
         private int spoon = 1;
@@ -958,14 +961,14 @@ public final class HighRecipes {
             }
         }
 
-        void begin(Book book) {
+        void begin(Book newBook) {
+            book = newBook;
             altitude = 0;
             servings = USUAL_SERVINGS;
             spoon = 1;
             minute = 0;
             forget();
-            panCount = book.panCount;
-            for (int i = 0; i < panCount; i++) {
+            for (int i = 0; i < book.panCount; i++) {
                 Pan pan = panAt(i);
                 if (pan != null) {
                     pan.clear();
@@ -976,13 +979,13 @@ public final class HighRecipes {
 
         /** What was warned and noted does not become as in the other: here it is told what is new. */
         void become(Kitchen other) {
+            book = other.book;
             altitude = other.altitude;
             servings = other.servings;
             spoon = other.spoon;
             minute = other.minute;
             forget();
-            panCount = other.panCount;
-            for (int i = 0; i < panCount; i++) {
+            for (int i = 0; i < book.panCount; i++) {
                 Pan pan = panAt(i);
                 Pan like = other.panAt(i);
                 if (pan != null && like != null) {
@@ -1001,12 +1004,12 @@ public final class HighRecipes {
 
         /** The pan of this number, or null. */
         Pan panAt(int pan) {
-            return pan >= 0 && pan < panCount && pan < pans.length ? pans[pan] : null;
+            return pan >= 0 && pan < book.panCount && pan < pans.length ? pans[pan] : null;
         }
 
         int hotPans() {
             int hot = 0;
-            for (int i = 0; i < panCount; i++) {
+            for (int i = 0; i < book.panCount; i++) {
                 Pan pan = panAt(i);
                 if (pan != null && pan.heat > ROOM_TEMPERATURE) {
                     hot++;
@@ -1017,7 +1020,7 @@ public final class HighRecipes {
 
         void moveTo(int there) {
             altitude = there;
-            for (int i = 0; i < panCount; i++) {
+            for (int i = 0; i < book.panCount; i++) {
                 Pan pan = panAt(i);
                 if (pan != null && pan.water > 0) {
                     pan.heat = Math.min(pan.heat, boilingHeat());
@@ -1028,7 +1031,7 @@ public final class HighRecipes {
         /** Lets minutes go by, in which all pans cool but one (or none, with null). */
         void pass(int minutes, Pan busy) {
             minute += minutes;
-            for (int i = 0; i < panCount; i++) {
+            for (int i = 0; i < book.panCount; i++) {
                 Pan pan = panAt(i);
                 if (pan != null && pan != busy) {
                     pan.cool(minutes);
@@ -1084,20 +1087,21 @@ public final class HighRecipes {
         private static final int MOST_VALUES = 5;
         private static final int MINUTES_OF_SPOON = 5;
 
-        private Book book;
-        private Kitchen kitchen;
+        private final Kitchen kitchen;
         private int begun;
-        private int firstWarningAct;
+        private int firstWarningAct = -1;
+
+        Cooking(Kitchen kitchen) {
+            this.kitchen = kitchen;
+        }
 
         /** Returns how many minutes it takes. */
-        int run(Book from, Kitchen in, int recipe) {
-            book = from;
-            kitchen = in;
+        int run(int recipe) {
             begun = 0;
             firstWarningAct = -1;
-            int start = in.minute;
-            doBlock(from.blockOf(recipe), 0);
-            return in.minute - start;
+            int start = kitchen.minute;
+            doBlock(kitchen.book.blockOf(recipe), 0);
+            return kitchen.minute - start;
         }
 
         private void doBlock(Act first, int around) {
@@ -1113,7 +1117,7 @@ public final class HighRecipes {
         private void doAct(Act act, int around) {
             switch (act.kind) {
                 case COOK:
-                    doBlock(book.blockOf(act.recipe), around + 1);
+                    doBlock(kitchen.book.blockOf(act.recipe), around + 1);
                     break;
                 case AGAIN:
                     doAgain(act, around);
