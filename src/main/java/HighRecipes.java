@@ -1067,7 +1067,7 @@ public final class HighRecipes {
             return (told * slowness(altitude) + 99) / 100;
         }
 
-        /** The amount in quarters, against quarters of a spoonful: half of one more rounds to the nearest. */
+        /** Counts in quarters, so that nothing is cut too early; with half a spoonful more, cutting gives the nearest. */
         int translated(int told) {
             int quarters = clamped(told, 0, MOST_TOLD) * servings;
             return quotient(quarters + 2 * spoon, 4 * spoon) * spoon;

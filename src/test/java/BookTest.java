@@ -220,7 +220,11 @@ public final class BookTest {
         Check.right("recipe r (note ((((1+1)+(1+1))+((1+1)+(1+1)))+(((1+1)+(1+1))+((1+1)+(1+1))));)");
         Check.error("recipe r (note (((((1+1)+1)+1)+1)+1);)", 1, 19);
         Check.error("recipe r (note (1+(1+(1+(1+(1+1)))));)", 1, 27);
+        Check.right("recipe r (if 1<1 (if 1<1 (if 1<1 (if 1<1 (if 1<1 ())))))");
+        Check.error("recipe r (if 1<1 (if 1<1 (if 1<1 (if 1<1 (if 1<1 (if 1<1 ()))))))", 1, 57);
         // each value begins anew, and blocks are no values
+        String deep = "((((1+1)+1)+1)+1)";
+        Check.right(PAN + "recipe r (pour " + deep + " water into a; heat a to " + deep + "; boil a for " + deep + "; rest " + deep + ";)");
         Check.right("recipe r (again 1 (again 1 (again 1 (again 1 (again 1 (note ((((1+1)+1)+1)+1);))))))");
         Check.right("recipe r (if ((((1+1)+1)+1)+1)=((((1+1)+1)+1)+1) () again ((((1+1)+1)+1)+1) ())");
     }
@@ -345,6 +349,8 @@ public final class BookTest {
         note("(7/0)", 0);
         note("(0/0)", 0);
         note("((7-2)-1)", 4);
+        note("((((1+2)*3)-4)/2)", 2);
+        note("(20-(18/(2*(1+2))))", 17);
         note("(7-(2-1))", 6);
         note("((999*999)*(999*999))", (int) (999L * 999 * 999 * 999));
         // 2 ** 31 = 512 * 512 * 512 * 16

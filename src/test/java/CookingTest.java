@@ -14,7 +14,11 @@ public final class CookingTest {
         ifElse();
         cookInCook();
         hundredActs();
-        deepest();
+        deepest("again 1(", "");
+        deepest("if 1=1(", "");
+        deepest("if 1=2()else(", "");
+        deepest("if 1=1(", "else()");
+        deepValues();
         Check.done();
     }
 
@@ -115,6 +119,10 @@ public final class CookingTest {
         x.setAltitude(30);
         // 13 * 150 / 100, rounded up; 20 * 100 / 150
         look("boil at 30", cooked(x, "boil at 30", 2 + 7 + 20, 0), 0, 46, 9, 90, 13);
+        HighRecipes z = Check.with("pan a holds 100; recipe r (pour 50 water into a; pour 1 meal into a; heat a to boiling; boil a for 99;)");
+        z.setAltitude(3);
+        // 104 minutes: 104 * 100 / 105 is 99
+        look("boil at 3", cooked(z, "boil at 3", 2 + 8 + 104, 0), 0, 30, 1, 99, 99);
         HighRecipes y = Check.with("pan a holds 200; recipe r (boil a for 1;) recipe s (heat a to 100;)");
         y.pourMeal(0, 198);
         y.cook(1);
@@ -226,21 +234,28 @@ public final class CookingTest {
     }
 
     /** Six recipes of six blocks in each other, each cooking the one before in its innermost block. */
-    private static void deepest() {
+    private static void deepest(String open, String behind) {
         StringBuilder book = new StringBuilder();
         for (char name = 'a'; name <= 'f'; name++) {
-            book.append("recipe ").append(name).append('(');
-            for (int i = 0; i < 5; i++) {
-                book.append("again 1(");
-            }
+            book.append("recipe ").append(name).append('(').append(open.repeat(5));
             book.append(name == 'a' ? "rest 7;" : "cook " + (char) (name - 1) + ";");
-            for (int i = 0; i < 6; i++) {
-                book.append(')');
-            }
+            book.append((")" + behind).repeat(5)).append(')');
         }
         HighRecipes x = Check.with(book.toString());
-        Check.due("acts of the deepest book", x.acts(), 36);
-        Check.due("cook of the deepest book", x.cook(5), 7);
-        Check.due("minutes of the deepest book", x.minutesOfRecipe(5), 7);
+        Check.due("acts of the deepest book of " + open, x.acts(), 36);
+        Check.due("cook of the deepest book of " + open, x.cook(5), 7);
+        Check.due("minutes of the deepest book of " + open, x.minutesOfRecipe(5), 7);
+    }
+
+    /** Values of four values in each other, in each act. */
+    private static void deepValues() {
+        String five = "((((1+1)+1)+1)+1)";
+        look("pour 5", cooked("pour " + five + " water into a;", 1, 0), 0, 5, 0, 20, 0);
+        look("heat to 55", cooked("pour 9 meal into a; heat a to ((((1+1)+1)+1)+51);", 5, 0), 0, 0, 9, 55, 0);
+        look("boil for 5", cooked("pour 9 water into a; pour 1 meal into a; heat a to 100; boil a for " + five + ";", 15, 0), 0, 8, 1, 100, 5);
+        cooked("rest " + five + ";", 5, 0);
+        cooked("again " + five + " (rest 1;)", 5, 0);
+        cooked("if " + five + "=5 and 5=" + five + " (rest 1;)", 1, 0);
+        Check.due("note 5", cooked("note " + five + ";", 0, 0).noteAt(0), 5);
     }
 }

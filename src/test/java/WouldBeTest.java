@@ -70,6 +70,17 @@ public final class WouldBeTest {
             x.setAltitude(15 * i);
             x.setServings(4 + i);
         }
+        HighRecipes z = Check.with("pan a holds 9; recipe r (rest minute; pour 5 water into a;)");
+        z.rest(13);
+        Check.due("minutes from minute 13 on", z.minutesOfRecipe(0), 14);
+        Check.due("warnings for 4", z.warningsOfRecipe(0), 0);
+        z.setServings(8);
+        Check.due("warnings for 8", z.warningsOfRecipe(0), 1);
+        Check.due("firstWarning for 8", z.firstWarning(0), 2);
+        z.setServings(7);
+        Check.due("warnings for 7", z.warningsOfRecipe(0), 0);
+        z.setSpoon(10);
+        Check.due("warnings by spoonfuls of 10", z.warningsOfRecipe(0), 1);
         HighRecipes y = Check.with(STEW);
         Check.due("minutes at 0", y.minutesOfRecipe(0), 1 + 1 + 8 + 1);
         Check.due("warnings at 0", y.warningsOfRecipe(0), 3);
