@@ -103,11 +103,14 @@ public final class FaceTest {
         for (Method method : HighRecipes.class.getMethods()) {
             face.add(method.getName());
         }
+        int fields = 0;
         for (Field field : type.getDeclaredFields()) {
+            fields += Modifier.isStatic(field.getModifiers()) ? 0 : 1;
             boolean isConstant = field.isSynthetic() || field.isEnumConstant();
             must(isConstant || Modifier.isPrivate(field.getModifiers()), field + " is private");
             must(!Modifier.isStatic(field.getModifiers()) || Modifier.isFinal(field.getModifiers()), field + " is final");
         }
+        must(fields <= 20, type + " has twenty fields at most");
         for (Class<?> part : type.getDeclaredClasses()) {
             must(Modifier.isPrivate(part.getModifiers()) && Modifier.isStatic(part.getModifiers()), part + " is private and static");
             for (Method method : part.getDeclaredMethods()) {
