@@ -929,8 +929,11 @@ public final class HighRecipes {
         }
 
         void add(int number) {
-            latest[Math.floorMod(total, KEPT)] = number;
-            total++;
+            int slot = Math.floorMod(total, KEPT);
+            if (slot >= 0 && slot < latest.length) {
+                latest[slot] = number;
+                total++;
+            }
         }
 
         int kept() {
@@ -938,7 +941,8 @@ public final class HighRecipes {
         }
 
         int recall(int back) {
-            return latest[Math.floorMod(total - 1 - back, KEPT)];
+            int slot = Math.floorMod(total - 1 - back, KEPT);
+            return slot >= 0 && slot < latest.length ? latest[slot] : 0;
         }
     }
 

@@ -8,57 +8,22 @@ import java.nio.file.Path;
 import java.util.ArrayList;
 import java.util.List;
 import java.util.TreeSet;
+import java.util.regex.Matcher;
+import java.util.regex.Pattern;
 
 /** The public face, just as the document prints it, and what of LANGUAGE.md can be seen from outside. */
 public final class FaceTest {
-    private static final String FACE = """
-        int feed(int,int,int,int,int) IllegalStateException
-        int trim(int) IllegalArgumentException
-        int teach()
-        int errorAt()
-        int pans()
-        int recipes()
-        int acts()
-        int altitude()
-        int boilingPoint()
-        int servings()
-        int spoon()
-        int minute()
-        int holdsOf(int) IndexOutOfBoundsException
-        int waterIn(int) IndexOutOfBoundsException
-        int mealIn(int) IndexOutOfBoundsException
-        int heatOf(int) IndexOutOfBoundsException
-        int doneIn(int) IndexOutOfBoundsException
-        int roomIn(int) IndexOutOfBoundsException
-        int boilingAt(int) IllegalArgumentException
-        int minutesAt(int,int) IllegalArgumentException
-        int amountFor(int) IllegalArgumentException
-        int warnings()
-        int warningsOf(int) IllegalArgumentException
-        int warningAt(int) IndexOutOfBoundsException
-        int notes()
-        int noteAt(int) IndexOutOfBoundsException
-        int setAltitude(int) IllegalArgumentException
-        int setServings(int) IllegalArgumentException
-        int setSpoon(int) IllegalArgumentException
-        int pourWater(int,int) IndexOutOfBoundsException IllegalArgumentException
-        int pourMeal(int,int) IndexOutOfBoundsException IllegalArgumentException
-        int wash(int) IndexOutOfBoundsException
-        int rest(int) IllegalArgumentException
-        int cook(int) IndexOutOfBoundsException
-        int minutesOfRecipe(int) IndexOutOfBoundsException
-        int warningsOfRecipe(int) IndexOutOfBoundsException
-        int firstWarning(int) IndexOutOfBoundsException
-        int doneBehind(int,int) IndexOutOfBoundsException
-        int highestSafe(int) IndexOutOfBoundsException
-        int mostServings(int) IndexOutOfBoundsException
-        double meanHeat()
-        long digest()
-        """;
+    private static final Path DOC = Path.of("../shared/DOC.md");
+    private static final Path SOURCE = Path.of("src/main/java/HighRecipes.java");
+    private static final Pattern PRINTED = Pattern.compile("public (int|long|double) (\\w+)\\((.*)\\)(?: throws (.*))?;");
+    private static final int METHODS = 42;
     private static final int MOST_LINES = 60;
 
     public static void main(String[] args) throws IOException {
-        face();
+        List<String> printed = printedFace();
+        face(printed);
+        faceInTheSource(printed);
+        headings();
         inside(HighRecipes.class);
         source();
         Check.done();
@@ -68,8 +33,32 @@ public final class FaceTest {
         Check.due(what, so ? 1 : 0, 1);
     }
 
-    private static void face() {
-        TreeSet<String> want = new TreeSet<>(List.of(FACE.strip().split("\n")));
+    /** The members that the document prints, a line each, the constructor first. */
+    private static List<String> printedFace() throws IOException {
+        List<String> members = new ArrayList<>();
+        boolean within = false;
+        for (String line : Files.readAllLines(DOC)) {
+            if (line.startsWith("```")) {
+                within = line.equals("```java");
+            } else if (within && line.startsWith("    public ")) {
+                members.add(line.strip());
+            }
+        }
+        must(members.size() == METHODS + 1, "the document prints a constructor and its methods: " + members.size());
+        return members;
+    }
+
+    private static void face(List<String> printed) {
+        TreeSet<String> want = new TreeSet<>();
+        for (String member : printed) {
+            Matcher matcher = PRINTED.matcher(member);
+            if (matcher.matches()) {
+                String types = matcher.group(3).replaceAll(" \\w+(, |$)", "$1").replace(", ", ",");
+                String thrown = matcher.group(4) == null ? "" : " " + matcher.group(4).replace(", ", " ");
+                want.add(matcher.group(1) + " " + matcher.group(2) + "(" + types + ")" + thrown);
+            }
+        }
+        must(want.size() == METHODS, "the methods that the document prints: " + want);
         TreeSet<String> got = new TreeSet<>();
         for (Method method : HighRecipes.class.getDeclaredMethods()) {
             if (Modifier.isPublic(method.getModifiers())) {
@@ -79,11 +68,45 @@ public final class FaceTest {
                 must(Modifier.isPrivate(method.getModifiers()) || method.isSynthetic(), method + " is private");
             }
         }
-        must(got.equals(want), "the face " + got);
+        Check.due("the face", got.toString(), want.toString());
+        must(HighRecipes.class.getFields().length == 0 && HighRecipes.class.getClasses().length == 0, "no other public member");
         int modifiers = HighRecipes.class.getModifiers();
         must(Modifier.isPublic(modifiers) && Modifier.isFinal(modifiers), "public and final");
         Constructor<?>[] all = HighRecipes.class.getDeclaredConstructors();
         must(all.length == 1 && Modifier.isPublic(all[0].getModifiers()) && all[0].getParameterCount() == 0, "one constructor");
+    }
+
+    /** Word for word and in the order of the document, with the names of what the methods take. */
+    private static void faceInTheSource(List<String> printed) throws IOException {
+        List<String> got = new ArrayList<>();
+        for (String line : Files.readAllLines(SOURCE)) {
+            if (line.startsWith("    public ")) {
+                got.add(line.strip().replaceAll(" \\{$", ";"));
+            }
+        }
+        Check.due("the face in the source", String.join("\n", got), String.join("\n", printed));
+    }
+
+    /** "Ahead of the calls ... the interface says: ---- ..." */
+    private static void headings() throws IOException {
+        String heading = "";
+        StringBuilder got = new StringBuilder();
+        for (String line : Files.readAllLines(SOURCE)) {
+            Matcher method = Pattern.compile("    public \\w+ (\\w+)\\(.*").matcher(line);
+            if (line.startsWith("    // ---- ")) {
+                heading = line.substring(7);
+            } else if (method.matches()) {
+                got.append(method.group(1)).append(": ").append(heading).append("\n");
+            }
+        }
+        StringBuilder want = new StringBuilder();
+        Matcher sentence = Pattern.compile("Ahead of the calls (.*) the interface says: (---- .*)\\.").matcher(Files.readString(DOC));
+        while (sentence.find()) {
+            for (String call : sentence.group(1).split(", ")) {
+                want.append(call.replace("`", "")).append(": ").append(sentence.group(2)).append("\n");
+            }
+        }
+        Check.due("the headings", got.toString(), want.toString());
     }
 
     private static String written(Method method) {
@@ -124,7 +147,7 @@ public final class FaceTest {
 
     private static void source() throws IOException {
         int lines = 0;
-        for (String line : Files.readAllLines(Path.of("src/main/java/HighRecipes.java"))) {
+        for (String line : Files.readAllLines(SOURCE)) {
             must(line.chars().allMatch(c -> c < 127), "plain signs alone: " + line);
             must(!line.contains("->") && !line.contains("::"), "no lambda, no method reference: " + line);
             must(!line.matches(".*\\b(import|package|try|catch|finally|synchronized|assert|protected|Object|Exact)\\b.*"),
